@@ -92,8 +92,10 @@ final class Frames {
     /** The bits of a frame of an end's line as bit tells them, up to the first NONE. */
     static String seen(LinkPair x, int end, int frame) {
         StringBuilder text = new StringBuilder();
-        for (int i = 0; i <= 3000 && x.bit(end, frame, i) != LinkPair.NONE; i++) {
-            text.append(x.bit(end, frame, i));
+        int next = x.bit(end, frame, 0);
+        while (next != LinkPair.NONE && text.length() < 3000) {
+            text.append(next);
+            next = x.bit(end, frame, text.length());
         }
         return text.toString();
     }

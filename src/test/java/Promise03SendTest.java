@@ -11,6 +11,7 @@ final class Promise03SendTest {
         againFromTheFirstOnOnceMore();
         indicatorsOfWhatGoesAgain();
         most127AreNotTold();
+        allThatAnEndCanKeep();
         numbersGoRound();
         fortyFrames();
         wrongEnds();
@@ -175,6 +176,29 @@ final class Promise03SendTest {
         Due.same("127 not told", Due.facts(x, 0), "1 1 127 127 0 127 0 0 2 0 1 0");
         Due.is("all told and again", Frames.layAndTake(x, 1, Frames.unit(127, 1, 127, 1)), 0);
         Due.is("not told", x.about(0, 5), 0);
+    }
+
+    /** 127 that are not told and 60 that wait, the first of them then sent again. */
+    private static void allThatAnEndCanKeep() {
+        LinkPair x = new LinkPair();
+        for (int i = 0; i < 127; i++) {
+            if (i >= 40) {
+                x.drop(0, 0);
+            }
+            x.put(0, 1 + i, i);
+            x.send(0);
+        }
+        for (int i = 0; i < 60; i++) {
+            x.put(0, 272 - i, i);
+        }
+        x.drop(0, 0);
+        Frames.layAndTake(x, 1, Frames.unit(127, 0, 127, 1));
+        Due.same("facts", Due.facts(x, 0), "0 1 126 127 60 127 127 0 39 0 1 0");
+        for (int i = 0; i < 40; i++) {
+            Due.is("send again", x.send(0), 2);
+            int length = Frames.unit(127, 1, i, 0, Frames.body(1 + i, i)).length();
+            Due.is("message " + i + " again", x.drop(0, 39), length);
+        }
     }
 
     private static void numbersGoRound() {

@@ -292,22 +292,26 @@ final class Promise04TakeTest {
         return Frames.layAndTake(x, 0, frame);
     }
 
-    /** 63 errors, then good units up to the 255th: the 256th leaks one before its own error counts. */
-    private static void errorsLeak() {
+    /** With 63 errors at first and good units then, the given unit is a fault: what it answers. */
+    private static int faultAfter63Errors(int unit) {
         LinkPair x = new LinkPair();
-        int calls = 0;
-        for (int i = 1; i <= 255; i++) {
+        for (int i = 1; i < unit; i++) {
             if (i <= 63) {
                 x.bits(0, 0, 1, true);
             } else {
                 x.send(0);
             }
             x.take(1);
-            calls += 2;
         }
         x.bits(0, 0, 1, true);
-        Due.is("the 256th unit", x.take(1), -1);
-        Due.is("within 512 calls", calls + 2, 512);
+        return x.take(1);
+    }
+
+    /** The 256th unit leaks one error before its own counts; its take is the 512th call. */
+    private static void errorsLeak() {
+        Due.is("the 128th unit", faultAfter63Errors(128), -11);
+        Due.is("the 255th unit", faultAfter63Errors(255), -11);
+        Due.is("the 256th unit", faultAfter63Errors(256), -1);
     }
 
     private static void wrongCalls() {

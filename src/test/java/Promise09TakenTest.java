@@ -71,6 +71,13 @@ final class Promise09TakenTest {
         Due.is("byte", x.taken(1, 50, 1), 87);
         Due.is("behind", x.taken(1, 50, 2), LinkPair.NONE);
         Due.is("its neighbour", x.taken(1, 1, 0), 1);
+        x.put(0, 272, 200);
+        x.send(0);
+        x.take(1);
+        Due.is("its last byte", x.taken(1, 51, 271), Frames.body(272, 200)[271]);
+        Due.is("behind", x.taken(1, 51, 272), LinkPair.NONE);
+        Due.is("the neighbour of a long one", x.taken(1, 2, 0), 2);
+        Due.is("the neighbour of a long one", x.taken(1, 50, 0), 50);
     }
 
     /** The document tells NONE only behind a message: a byte before it is no number that may be. */
