@@ -76,7 +76,9 @@ public final class LinkPair {
         if (from.failed || from.line.isFull()) {
             throw new IllegalStateException();
         }
-        return from.sendUnit(unit);
+        int kind = from.nextUnit(unit);
+        unit.writeTo(from.line.open());
+        return kind;
     }
 
     public int take(int end) throws IllegalArgumentException, IllegalStateException {
@@ -492,7 +494,8 @@ public final class LinkPair {
             abnormalLastButOne = false;
         }
 
-        int sendUnit(Unit unit) {
+        /** Writes what the end sends next into the unit: which kind it is. */
+        int nextUnit(Unit unit) {
             if (messages.again > 0) {
                 int ahead = messages.again - 1;
                 messages.again = ahead;
@@ -521,7 +524,6 @@ public final class LinkPair {
             unit.writeHead(backward, number + 128 * forwardIndicator, length);
             unit.writeBody(seed);
             unit.writeCheck();
-            unit.writeTo(line.open());
         }
 
         int takeUnit(Unit unit, int fault) {

@@ -13,13 +13,20 @@ final class RandomRunsTest {
     private final int trouble;
     /** In some runs end 0 sends nearly all and is seldom told, so that much is kept. */
     private final boolean oneSided;
+    /** In some runs little is taken, so that lines, frames and what waits become full. */
+    private final boolean crowded;
+    /** In some runs end 0 gets faulty frames nearly alone, so that it fails by errors. */
+    private final boolean noisy;
     private final String name;
     private int calls;
 
     private RandomRunsTest(int run) {
         random = new Random(run);
         trouble = random.nextInt(4);
-        oneSided = random.nextInt(3) == 0;
+        int kind = random.nextInt(9);
+        oneSided = kind < 3;
+        crowded = kind == 3;
+        noisy = kind == 4;
         name = "run " + run;
     }
 
@@ -32,8 +39,13 @@ final class RandomRunsTest {
 
     private void go() {
         while (calls < CALLS - 30) {
-            if (oneSided && random.nextInt(20) > 0) {
+            boolean ordinary = random.nextInt(20) == 0;
+            if (oneSided && !ordinary) {
                 stepOfOneSide();
+            } else if (crowded && !ordinary) {
+                crowdedStep();
+            } else if (noisy && !ordinary) {
+                noisyStep();
             } else {
                 step();
             }
@@ -55,6 +67,38 @@ final class RandomRunsTest {
             drop(0, 0);
         } else {
             take(1);
+        }
+    }
+
+    private void crowdedStep() {
+        int kind = random.nextInt(20);
+        if (kind < 6) {
+            put(0, 1 + random.nextInt(272), random.nextInt(256));
+        } else if (kind < 9) {
+            send(0);
+        } else if (kind < 12) {
+            bits(0, random.nextLong(), 1 + random.nextInt(64), true);
+        } else if (kind < 18) {
+            bits(1, random.nextLong(), 64 - random.nextInt(20), model.about(1, 8) > 20 && random.nextInt(60) == 0);
+        } else if (kind < 19) {
+            drop(0, random.nextInt(42) - 1);
+        } else {
+            flip(1, model.about(1, 8) - 1, random.nextInt(3002) - 1);
+        }
+    }
+
+    private void noisyStep() {
+        int kind = random.nextInt(40);
+        if (kind < 17) {
+            bits(1, random.nextLong(), 1 + random.nextInt(40), true);
+        } else if (kind < 37) {
+            take(0);
+        } else if (kind < 39) {
+            send(1);
+        } else if (model.about(0, 11) == 1) {
+            restart(0);
+        } else {
+            put(0, 1, 1);
         }
     }
 
